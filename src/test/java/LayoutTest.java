@@ -8,6 +8,7 @@ public final class LayoutTest {
         joinsOnlyEnds(check);
         neverBehindABlock(check);
         warmth(check);
+        warmthOfChains(check);
         warmthOfGreatSums(check);
         functionsAndCold(check);
         hotFunctionsInTurn(check);
@@ -122,28 +123,49 @@ public final class LayoutTest {
         check.due("cold blocks", x.count(4), 0);
     }
 
+    /** 10 over 40 is less warm than 2 over 2, though the first block alone would be warmer. */
+    private static void warmthOfChains(Check check) {
+        LayoutOptimizer x = new LayoutOptimizer(50);
+        for (int body : new int[] {1, 1, 39, 2}) {
+            x.block(0, body);
+        }
+        x.jump(1, 2);
+        x.jump(3, 3);
+        x.heat(1, 0, 10);
+        x.heat(3, 0, 2);
+        x.layout(1);
+        check.dueOrder("bodies are summed", x, 0, 3, 1, 2);
+        x.heat(1, 0, 31);
+        x.layout(1);
+        check.dueOrder("counts are summed", x, 0, 1, 2, 3);
+    }
+
     /** 6000000 over 7 is warmer than 11 over 480, though 6000000 * 480 passes an int. */
     private static void warmthOfGreatSums(Check check) {
         LayoutOptimizer x = Samples.blocks(50, 1, 1);
-        for (int b = 1; b <= 19; b++) {
-            x.block(0, b <= 12 ? 40 : 1);
-        }
-        for (int b = 1; b < 19; b++) {
-            if (b != 12) {
-                x.jump(b, b + 1);
-            }
-        }
-        for (int b = 1; b < 12; b++) {
-            x.heat(b, 0, 1);
-        }
-        for (int b = 13; b < 19; b++) {
-            for (int k = 0; k < 10; k++) {
-                x.heat(b, 0, 100000);
-            }
-        }
+        addChain(x, 12, 40, 1, 1);
+        addChain(x, 7, 1, 100000, 10);
         x.layout(1);
-        check.dueOrder("great sums", x, 0, 13, 14, 15, 16, 17, 18, 19, 1, 2, 3, 4, 5, 6, 7, 8, 9, 10, 11, 12);
+        check.dueOrder("the hot behind", x, 0, 13, 14, 15, 16, 17, 18, 19, 1, 2, 3, 4, 5, 6, 7, 8, 9, 10, 11, 12);
         check.due("chains", x.count(5), 3);
+        LayoutOptimizer y = Samples.blocks(50, 1, 1);
+        addChain(y, 7, 1, 100000, 10);
+        addChain(y, 12, 40, 1, 1);
+        y.layout(1);
+        check.dueOrder("the hot before", y, 0, 1, 2, 3, 4, 5, 6, 7, 8, 9, 10, 11, 12, 13, 14, 15, 16, 17, 18, 19);
+    }
+
+    /** Blocks of one body, each of which jumps to the next, with all these edges heated so often by so much. */
+    private static void addChain(LayoutOptimizer x, int blocks, int body, int heat, int times) {
+        int last = x.block(0, body);
+        for (int k = 1; k < blocks; k++) {
+            int made = x.block(0, body);
+            x.jump(last, made);
+            for (int t = 0; t < times; t++) {
+                x.heat(last, 0, heat);
+            }
+            last = made;
+        }
     }
 
     /** Blocks of functions 3, 1, 3, 1, 1, 3: each second last one is warm. */

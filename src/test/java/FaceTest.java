@@ -11,28 +11,37 @@ public final class FaceTest {
             "cool/0", "layout/1", "at/1", "address/1", "branch/2", "target/2", "cost/2", "heatOf/2", "count/1");
     private static final Set<String> CONSTANTS = Set.of("REFUSED", "FULL", "NONE", "SHORT", "LONG");
 
+    private static final Class<?> FACE = LayoutOptimizer.class;
+
     public static void main(String[] args) {
-        Check check = new Check();
-        Class<?> face = LayoutOptimizer.class;
-        check.dueTrue("public final class",
-                Modifier.isPublic(face.getModifiers()) && Modifier.isFinal(face.getModifiers()));
+        Check check = new Check("The public face");
+        check.test("public final class LayoutOptimizer", FaceTest::ofTheClass);
+        check.test("the constants", FaceTest::constants);
+        check.test("the methods, and no other that is not private", FaceTest::methods);
+        check.test("the fields, and no other that is not private", FaceTest::fields);
+        check.test("the constructor, and no other", FaceTest::constructors);
+        check.end();
+    }
+
+    private static void ofTheClass(Check check) {
+        check.dueTrue("public", Modifier.isPublic(FACE.getModifiers()));
+        check.dueTrue("final", Modifier.isFinal(FACE.getModifiers()));
+        for (Class<?> inside : FACE.getDeclaredClasses()) {
+            check.dueTrue(inside + " is static", Modifier.isStatic(inside.getModifiers()));
+        }
+    }
+
+    private static void constants(Check check) {
         check.due("REFUSED", LayoutOptimizer.REFUSED, -1);
         check.due("FULL", LayoutOptimizer.FULL, -2);
         check.due("NONE", LayoutOptimizer.NONE, -3);
         check.due("SHORT", LayoutOptimizer.SHORT, 1);
         check.due("LONG", LayoutOptimizer.LONG, 2);
-        methods(check, face);
-        fields(check, face);
-        constructors(check, face);
-        for (Class<?> inside : face.getDeclaredClasses()) {
-            check.dueTrue(inside + " is static", Modifier.isStatic(inside.getModifiers()));
-        }
-        check.end();
     }
 
-    private static void methods(Check check, Class<?> face) {
+    private static void methods(Check check) {
         Set<String> open = new TreeSet<>();
-        for (Method method : face.getDeclaredMethods()) {
+        for (Method method : FACE.getDeclaredMethods()) {
             if (!Modifier.isPrivate(method.getModifiers())) {
                 open.add(method.getName() + "/" + method.getParameterCount());
                 check.dueTrue(method + " is public", Modifier.isPublic(method.getModifiers()));
@@ -45,9 +54,9 @@ public final class FaceTest {
         check.dueTrue("methods " + open, open.equals(METHODS));
     }
 
-    private static void fields(Check check, Class<?> face) {
+    private static void fields(Check check) {
         Set<String> open = new TreeSet<>();
-        for (Field field : face.getDeclaredFields()) {
+        for (Field field : FACE.getDeclaredFields()) {
             int modifiers = field.getModifiers();
             if (!Modifier.isPrivate(modifiers)) {
                 open.add(field.getName());
@@ -61,8 +70,8 @@ public final class FaceTest {
         check.dueTrue("constants " + open, open.equals(CONSTANTS));
     }
 
-    private static void constructors(Check check, Class<?> face) {
-        Constructor<?>[] all = face.getDeclaredConstructors();
+    private static void constructors(Check check) {
+        Constructor<?>[] all = FACE.getDeclaredConstructors();
         check.due("constructors", all.length, 1);
         check.dueTrue(all[0] + " is public", Modifier.isPublic(all[0].getModifiers()));
         check.dueTrue(all[0] + " takes one int",

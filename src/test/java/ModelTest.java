@@ -27,11 +27,15 @@ public final class ModelTest {
     }
 
     public static void main(String[] args) {
-        Check check = new Check();
+        Check check = new Check("All promises");
+        check.test("long runs of calls, held against the model", ModelTest::playAll);
+        check.end();
+    }
+
+    private static void playAll(Check check) {
         for (int run = 0; run < RUNS; run++) {
             new ModelTest(check, run).play();
         }
-        check.end();
     }
 
     private void play() {

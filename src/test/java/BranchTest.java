@@ -23,6 +23,7 @@ public final class BranchTest {
         check.test("its own ADDRESS, with the lengths as they are", BranchTest::behindALongOne);
         check.test("Again and again: until none does", BranchTest::againAndAgain);
         check.test("All BRANCHES are SHORT at first, in each LAYOUT", BranchTest::shortAtFirst);
+        check.test("NONE if it has no such in the LAYOUT, though it had in the one before", BranchTest::noLonger);
         check.test("a call that answers NONE changes nothing", BranchTest::changesNothing);
         check.end();
     }
@@ -319,6 +320,35 @@ public final class BranchTest {
             due(check, "by number", x, 1, SHORT, NONE);
             due(check, "by number", x, 2, NONE, NONE);
         }
+    }
+
+    /** 0 tests for 2 and 3, and once one of them is hot, that one is next. */
+    private static void noLonger(Check check) {
+        for (int e = 0; e <= 1; e++) {
+            dueOneLess(check, 4, e, LONG);
+            dueOneLess(check, 5, e, SHORT);
+        }
+        LayoutOptimizer y = Samples.blocks(20, 3, 2);
+        y.jump(0, 2);
+        y.heat(0, 0, 1);
+        y.layout(0);
+        due(check, "a jump by number", y, 0, SHORT, NONE);
+        y.layout(1);
+        due(check, "a jump by chains", y, 0, NONE, NONE);
+    }
+
+    /** By number the branches go over 4 and 5 units, by chains the one that is left goes over 5. */
+    private static void dueOneLess(Check check, int range, int hot, int length) {
+        LayoutOptimizer x = Samples.fork(range);
+        x.heat(0, hot, 1);
+        x.layout(0);
+        due(check, "by number", x, 0, length, length);
+        x.layout(1);
+        due(check, "by chains", x, 0, length, NONE);
+        check.due("by chains: branches", x.count(2), 1);
+        check.due("by chains: length", x.count(1), 4 + length + 3);
+        x.layout(0);
+        due(check, "by number again", x, 0, length, length);
     }
 
     private static void changesNothing(Check check) {

@@ -186,6 +186,14 @@ public final class CostTest {
         check.due("a refused layout", x.cost(0, 1), 3 + 3 + 1);
         x.layout(0);
         check.due("by number again", x.cost(0, 1), 1 + 3 + 1);
+        // Two branches by number; by chains 3 is next, so that only the one to 2 is left.
+        LayoutOptimizer y = Samples.fork(4);
+        y.heat(0, 1, 1);
+        y.layout(0);
+        check.due("two branches: the second", y.cost(0, 0), 4 + 1);
+        y.layout(1);
+        check.due("one branch: not taken", y.cost(0, 0), 1 + 1);
+        check.due("one branch: taken and long", y.cost(0, 1), 3 + 1);
     }
 
     private static void leavesCounts(Check check) {

@@ -39,6 +39,10 @@ public final class PlacingTest {
         x.heat(1, 0, 50);
         x.layout(0);
         check.dueOrder("mixed functions and counts", x, 0, 1, 2, 3, 4, 5);
+        x.layout(1);
+        check.dueOrder("by chains", x, 1, 4, 3, 0, 5, 2);
+        x.layout(0);
+        check.dueOrder("by number behind by chains", x, 0, 1, 2, 3, 4, 5);
         LayoutOptimizer one = Samples.blocks(4, 1, 1);
         one.layout(0);
         check.dueOrder("one block", one, 0);

@@ -16,6 +16,7 @@ public final class TargetTest {
         check.test("NEXT: none for the last", TargetTest::ofTheLast);
         check.test("in the LAYOUT, by its places", TargetTest::byPlace);
         check.test("of a LONG one as of a SHORT one", TargetTest::ofLong);
+        check.test("NONE if it has no such in the LAYOUT, though it had in the one before", TargetTest::noLonger);
         check.test("a call that answers NONE changes nothing", TargetTest::changesNothing);
         check.end();
     }
@@ -173,6 +174,27 @@ public final class TargetTest {
         y.layout(0);
         check.due("branch(0, 0)", y.branch(0, 0), LayoutOptimizer.SHORT);
         due(check, "short", y, 0, 2, 3);
+    }
+
+    /** 0 tests for 2 and 3, and once one of them is hot, that one is next. */
+    private static void noLonger(Check check) {
+        for (int e = 0; e <= 1; e++) {
+            LayoutOptimizer x = Samples.fork(20);
+            x.heat(0, e, 1);
+            x.layout(0);
+            due(check, "by number", x, 0, 2, 3);
+            x.layout(1);
+            due(check, "by chains", x, 0, 3 - e, NONE);
+            x.layout(0);
+            due(check, "by number again", x, 0, 2, 3);
+        }
+        LayoutOptimizer y = Samples.blocks(20, 3, 2);
+        y.jump(0, 2);
+        y.heat(0, 0, 1);
+        y.layout(0);
+        due(check, "a jump by number", y, 0, 2, NONE);
+        y.layout(1);
+        due(check, "a jump by chains", y, 0, NONE, NONE);
     }
 
     private static void changesNothing(Check check) {

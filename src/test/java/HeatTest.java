@@ -143,6 +143,20 @@ public final class HeatTest {
         check.due("it stays there", x.heatOf(3, -1), 1000000);
         check.due("heat(2, 0, 100000)", x.heat(2, 0, 100000), 600000);
         check.due("it stays there by much", x.heatOf(3, -1), 1000000);
+        LayoutOptimizer y = Samples.diamond(20);
+        for (int k = 0; k < 9; k++) {
+            y.heat(1, 0, 100000);
+        }
+        y.heat(2, 0, 99999);
+        check.due("heat(2, 0, 2)", y.heat(2, 0, 2), 100001);
+        check.due("from one less past it", y.heatOf(3, -1), 1000000);
+        LayoutOptimizer z = Samples.diamond(20);
+        for (int k = 0; k < 9; k++) {
+            z.heat(1, 0, 100000);
+        }
+        z.heat(2, 0, 1);
+        check.due("heat(2, 0, 100000)", z.heat(2, 0, 100000), 100001);
+        check.due("from 99999 less past it by one", z.heatOf(3, -1), 1000000);
     }
 
     /** Edge 1 of 0 is heated by more, but its count is the same, so that edge 0 joins first. */

@@ -10,7 +10,8 @@ public final class CostTest {
         Check check = new Check("Promise 13, cost");
         check.test("RETURN: 1", CostTest::ofReturn);
         check.test("JUMP: 0 without a BRANCH, else 2, and 1 more if it is LONG", CostTest::ofJump);
-        check.test("TEST: for its first BRANCH 1; if that is taken, 1 more and 1 more if it is LONG", CostTest::ofFirst);
+        check.test("TEST: for its first BRANCH 1; if that is taken, 1 more and 1 more if it is LONG",
+                CostTest::ofFirst);
         check.test("TEST: turned round, it is taken if it does not hold", CostTest::ofTurned);
         check.test("if it is not and there is a second, 2 more and 1 more if it is LONG", CostTest::ofSecond);
         check.test("For x and y the same and NEXT: a BRANCH to x", CostTest::sameTargets);
@@ -212,7 +213,8 @@ public final class CostTest {
 
     private static void functions(Check check) {
         LayoutOptimizer x = new LayoutOptimizer(20);
-        // Function f has f + 1 blocks, each of which jumps to the one before, but for the entry, that jumps to the last.
+        // Function f has f + 1 blocks: the entry jumps to the last, and each other one to the one before it,
+        // but for the second, that returns.
         int made = 0;
         for (int f = 0; f <= 3; f++) {
             for (int k = 0; k <= f; k++) {

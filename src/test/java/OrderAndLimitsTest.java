@@ -21,7 +21,7 @@ public final class OrderAndLimitsTest {
         check.test("but at, address, branch, target and heatOf, which answer NONE then", OrderAndLimitsTest::none);
         check.test("block numbers end where the blocks end", OrderAndLimitsTest::blockNumbers);
         check.test("more than one number out of its range", OrderAndLimitsTest::severalWrong);
-        check.test("before that 24 blocks are FULL", OrderAndLimitsTest::beforeFull);
+        check.test("a number out of its range is REFUSED, though 24 blocks are FULL", OrderAndLimitsTest::beforeFull);
         check.test("any number of holds is in its range", OrderAndLimitsTest::anyHolds);
         check.test("no call throws, whatever the numbers", OrderAndLimitsTest::neverThrows);
         check.test("An object is used for at most 512 calls", OrderAndLimitsTest::lastCall);
@@ -118,7 +118,8 @@ public final class OrderAndLimitsTest {
     }
 
     private static void neverThrows(Check check) {
-        int[] numbers = {MIN, MIN + 1, -25, -4, -3, -2, -1, 0, 1, 2, 3, 4, 5, 23, 24, 25, 47, 48, 59, 60, 61, MAX - 1, MAX};
+        int[] numbers = {MIN, MIN + 1, -25, -4, -3, -2, -1, 0, 1, 2, 3, 4, 5, 23, 24, 25, 47, 48, 59, 60, 61,
+            MAX - 1, MAX};
         for (Supplier<LayoutOptimizer> state : Samples.states().values()) {
             for (int p : numbers) {
                 for (int q : numbers) {
